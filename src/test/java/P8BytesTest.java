@@ -32,7 +32,8 @@ public final class P8BytesTest {
     /** Round the ring, short records come to stand where long ones were. */
     private static void staleBytesNeverShow() {
         JournalDesk desk = new JournalDesk();
-        for (int round = 0; round < 50; round++) {
+        for (int round = 0; round < 40; round++) {
+            desk.put(-1L, 8);
             desk.put(-1L, 8);
             desk.put(-1L, 8);
             desk.write();
@@ -42,6 +43,8 @@ public final class P8BytesTest {
             DUE.is("bytes(0, 0)", desk.bytes(0, 0), 3L << 56);
             DUE.is("bytes(0, 1)", desk.bytes(0, 1), 0);
             desk.drop(1);
+            // Six sectors a round, so that the places of long and short ones come to meet.
+            desk.drop(0);
         }
     }
 
