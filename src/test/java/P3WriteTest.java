@@ -2,86 +2,108 @@ public final class P3WriteTest {
     private static final Due DUE = new Due();
 
     public static void main(String[] args) {
-        numbersAndTape();
-        sectorsOfEachLength();
-        room();
-        ownNumbersBehindDrops();
-        cutWrite();
+        DUE.test("3: The tape is a record: its number", P3WriteTest::numbers);
+        DUE.test("3: an empty tape is a record too", P3WriteTest::emptyTape);
+        DUE.test("3: a full tape is a record", P3WriteTest::fullTape);
+        DUE.test("3: The tape (empty then)", P3WriteTest::tapeIsEmptyThen);
+        DUE.test("3: The tape (empty then, also if it is cut)", P3WriteTest::tapeIsEmptyIfCut);
+        DUE.test("3: -2 if it is cut", P3WriteTest::cut);
+        DUE.test("3: -1, refused, without power", P3WriteTest::withoutPower);
+        DUE.test("3: -1, refused, without room", P3WriteTest::withoutRoom);
+        DUE.test("3: room comes again behind a drop", P3WriteTest::roomAgain);
         DUE.end();
     }
 
-    private static void numbersAndTape() {
+    private static void numbers() {
+        JournalDesk desk = new JournalDesk();
+        for (int number = 0; number < 5; number++) {
+            DUE.is("write()", Due.write(desk, 3 * number, 40), number);
+            DUE.holds("of it", desk, number, 3 * number, 40);
+        }
+    }
+
+    private static void emptyTape() {
         JournalDesk desk = new JournalDesk();
         DUE.is("write() of an empty tape", desk.write(), 0);
-        DUE.is("write() of 3", Due.write(desk, 3, 1), 1);
-        DUE.is("the tape is empty then", desk.count(0), 0);
-        DUE.is("write()", desk.write(), 2);
-        DUE.is("record(0, 0)", desk.record(0, 0), 0);
-        DUE.is("record(1, 0)", desk.record(1, 0), 3);
-        DUE.is("record(2, 0)", desk.record(2, 0), 0);
+        DUE.is("count(1)", desk.count(1), 1);
+        DUE.is("count(2)", desk.count(2), 1);
+        DUE.is("count(3)", desk.count(3), 1);
+        DUE.holds("of it", desk, 0, 0, 0);
     }
 
-    private static void sectorsOfEachLength() {
-        for (int length = 0; length <= 100; length++) {
-            JournalDesk desk = new JournalDesk();
-            Due.write(desk, length, 0);
-            int sectors = 1;
-            for (int begun = 12; begun < length; begun += 12) {
-                sectors++;
-            }
-            DUE.is("sectors of " + length + " bytes", desk.count(2), sectors);
-        }
-    }
-
-    private static void room() {
+    private static void fullTape() {
         JournalDesk desk = new JournalDesk();
-        for (int at = 0; at < 4; at++) {
-            Due.write(desk, 100, at);
-        }
-        Due.fill(desk, 49, 0);
-        DUE.is("36 sectors and 5", desk.write(), -1);
-        DUE.is("a refused write keeps the tape", desk.count(0), 49);
-        DUE.is("and is no entry", desk.count(3), 4);
-        DUE.is("and takes no sectors", desk.count(2), 36);
-
-        JournalDesk full = new JournalDesk();
-        for (int at = 0; at < 4; at++) {
-            Due.write(full, 100, at);
-        }
-        DUE.is("36 sectors and 4", Due.write(full, 48, 9), 4);
-        DUE.is("a full disk", full.count(2), 40);
-        DUE.is("40 sectors and 1", full.write(), -1);
-
-        JournalDesk many = new JournalDesk();
-        Due.writeEmpty(many, 40);
-        DUE.is("the 41st sector", many.write(), -1);
-        DUE.is("record(39, 1)", many.record(39, 1), 39);
+        DUE.is("write() of a full tape", Due.write(desk, 100, 77), 0);
+        DUE.holds("of it", desk, 0, 100, 77);
     }
 
-    private static void ownNumbersBehindDrops() {
+    private static void tapeIsEmptyThen() {
         JournalDesk desk = new JournalDesk();
-        Due.writeEmpty(desk, 3);
-        desk.drop(3);
-        DUE.is("a number isn't used again behind a drop", desk.write(), 3);
+        Due.write(desk, 100, 1);
+        DUE.is("count(0)", desk.count(0), 0);
+        desk.write();
+        DUE.is("the next record's bytes", desk.record(1, 0), 0);
+        DUE.is("the next record's bytes(1, 0)", desk.bytes(1, 0), 0);
     }
 
-    private static void cutWrite() {
+    private static void tapeIsEmptyIfCut() {
+        JournalDesk desk = new JournalDesk();
+        Due.fill(desk, 100, 1);
+        desk.cut(8);
+        desk.write();
+        DUE.is("count(0) without power", desk.count(0), 0);
+        desk.start();
+        DUE.is("count(0) behind start()", desk.count(0), 0);
+        desk.write();
+        DUE.is("the next record's bytes", desk.record(0, 0), 0);
+    }
+
+    private static void cut() {
         for (int behind = 0; behind <= 8; behind++) {
-            JournalDesk desk = new JournalDesk();
-            Due.write(desk, 20, 1);
-            desk.cut(behind);
-            DUE.is("write() cut behind " + behind, Due.write(desk, 30, 50), -2);
-            DUE.is("its tape is empty", desk.count(0), 0);
-            DUE.is("the power is gone", desk.count(4), 0);
-            DUE.is("it is no entry", desk.count(3), 1);
-            desk.put(9L, 1);
-            DUE.is("write() without power", desk.write(), -1);
-            DUE.is("it keeps the tape", desk.count(0), 1);
-            DUE.is("start()", desk.start(), 1);
-            DUE.is("sectors behind start()", desk.count(2), 2);
-            DUE.is("the number is used again", desk.write(), 1);
-            DUE.is("bytes(1, 0)", desk.bytes(1, 0), 9L << 56);
-            DUE.is("bytes(0, 0)", desk.bytes(0, 0), 0x0102030405060708L);
+            for (int length : new int[] {0, 12, 13, 100}) {
+                JournalDesk desk = new JournalDesk();
+                Due.write(desk, 20, 1);
+                desk.cut(behind);
+                DUE.is("write() of " + length + " cut behind " + behind, Due.write(desk, length, 50), -2);
+                DUE.is("count(3)", desk.count(3), 1);
+                desk.start();
+                DUE.is("count(1) behind start()", desk.count(1), 1);
+            }
         }
+    }
+
+    private static void withoutPower() {
+        JournalDesk desk = new JournalDesk();
+        Due.powerOff(desk);
+        DUE.is("write() of an empty tape without power", desk.write(), -1);
+        Due.fill(desk, 30, 4);
+        DUE.is("write() without power", desk.write(), -1);
+        DUE.is("it keeps the tape", desk.count(0), 30);
+        DUE.is("it is no entry", desk.count(3), 0);
+        desk.start();
+        DUE.is("write() behind start()", desk.write(), 0);
+        DUE.holds("behind start()", desk, 0, 30, 4);
+    }
+
+    private static void withoutRoom() {
+        JournalDesk desk = new JournalDesk();
+        Due.writeEmpty(desk, 36);
+        Due.fill(desk, 49, 3);
+        DUE.is("36 sectors and 5", desk.write(), -1);
+        DUE.is("it keeps the tape", desk.count(0), 49);
+        DUE.is("it takes no sectors", desk.count(2), 36);
+        DUE.is("it is no entry", desk.count(3), 36);
+        desk.drop(2);
+        DUE.is("35 sectors and 5, the number was not used", desk.write(), 36);
+        DUE.holds("behind a refused write", desk, 34, 49, 3);
+    }
+
+    private static void roomAgain() {
+        JournalDesk desk = new JournalDesk();
+        Due.writeEmpty(desk, 39);
+        desk.drop(1);
+        DUE.is("write() in the sector that was given back", desk.write(), 39);
+        DUE.is("count(2)", desk.count(2), 40);
+        DUE.is("write() on a full disk", desk.write(), -1);
     }
 }

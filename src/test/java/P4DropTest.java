@@ -2,124 +2,155 @@ public final class P4DropTest {
     private static final Due DUE = new Due();
 
     public static void main(String[] args) {
-        oldestGo();
-        wrongMany();
-        keptEntries();
-        keptFromTheDropOn();
-        room();
-        cutDrop();
-        roundTheRing();
+        DUE.test("4: The oldest many records go: how many are left", P4DropTest::oldestGo);
+        DUE.test("4: all go", P4DropTest::allGo);
+        DUE.test("4: -2 if it is cut", P4DropTest::cut);
+        DUE.test("4: if it is cut, none goes", P4DropTest::noneGoesIfCut);
+        DUE.test("4: a drop, whole or cut, leaves the tape", P4DropTest::leavesTheTape);
+        DUE.test("4: -1, refused, without power", P4DropTest::withoutPower);
+        DUE.test("4: -1, refused, without room", P4DropTest::withoutRoom);
+        DUE.test("4: the last sector is room enough", P4DropTest::lastSector);
+        DUE.test("4: -1, refused, if there are not as many", P4DropTest::notAsMany);
+        DUE.test("4: -1, refused, if many is below 0", P4DropTest::belowZero);
+        DUE.test("4: 0 is fine", P4DropTest::zero);
+        DUE.test("4: 0 is fine, if there are none too", P4DropTest::zeroOfNone);
         DUE.end();
     }
 
-    private static void oldestGo() {
+    private static JournalDesk fiveRecords() {
         JournalDesk desk = new JournalDesk();
         for (int at = 0; at < 5; at++) {
             Due.write(desk, at, 10 * at);
         }
-        DUE.is("drop(0)", desk.drop(0), 5);
-        DUE.is("drop(2)", desk.drop(2), 3);
-        DUE.is("record(0, 1)", desk.record(0, 1), 2);
-        DUE.is("record(2, 1)", desk.record(2, 1), 4);
-        DUE.is("record(3, 1)", desk.record(3, 1), -1);
-        DUE.is("bytes(0, 0)", desk.bytes(0, 0), 0x1415L << 48);
-        DUE.is("drop(3)", desk.drop(3), 0);
-        DUE.is("record(0, 1) of none", desk.record(0, 1), -1);
-        DUE.is("drop(0) of none", desk.drop(0), 0);
-        DUE.is("drops are entries", desk.count(3), 9);
+        return desk;
     }
 
-    private static void wrongMany() {
-        JournalDesk desk = new JournalDesk();
-        Due.writeEmpty(desk, 2);
-        desk.put(1L, 4);
-        for (int many : new int[] {3, -1, Integer.MIN_VALUE, Integer.MAX_VALUE}) {
-            DUE.is("drop(" + many + ")", desk.drop(many), -1);
-            DUE.is("records", desk.count(1), 2);
-            DUE.is("sectors", desk.count(2), 2);
-            DUE.is("entries", desk.count(3), 2);
+    private static void oldestGo() {
+        for (int many = 1; many < 5; many++) {
+            JournalDesk desk = fiveRecords();
+            DUE.is("drop(" + many + ")", desk.drop(many), 5 - many);
+            DUE.is("count(1)", desk.count(1), 5 - many);
+            for (int i = 0; i < 5 - many; i++) {
+                DUE.is("record(" + i + ", 1)", desk.record(i, 1), i + many);
+                DUE.holds("behind drop(" + many + ")", desk, i, i + many, 10 * (i + many));
+            }
+            DUE.is("record behind the last", desk.record(5 - many, 1), -1);
         }
-        DUE.is("drop(2)", desk.drop(2), 0);
-        DUE.is("a drop leaves the tape", desk.count(0), 4);
     }
 
-    private static void keptEntries() {
-        JournalDesk desk = new JournalDesk();
-        Due.write(desk, 100, 0);
-        desk.drop(0);
-        Due.write(desk, 13, 0);
-        DUE.is("record, drop, record", desk.count(2), 12);
-        desk.drop(0);
-        DUE.is("a drop of none gives nothing back ahead of a record", desk.count(2), 13);
-        desk.drop(1);
-        DUE.is("the drop between the records goes, too", desk.count(2), 4);
+    private static void allGo() {
+        JournalDesk desk = fiveRecords();
+        DUE.is("drop(5) of 5", desk.drop(5), 0);
+        DUE.is("count(1)", desk.count(1), 0);
+        DUE.is("record(0, 1)", desk.record(0, 1), -1);
+        DUE.is("count(3)", desk.count(3), 6);
     }
 
-    private static void keptFromTheDropOn() {
-        JournalDesk desk = new JournalDesk();
-        desk.drop(0);
-        DUE.is("a first drop is kept", desk.count(2), 1);
-        desk.drop(0);
-        DUE.is("the second alone is kept", desk.count(2), 1);
-        desk.write();
-        DUE.is("a write gives nothing back", desk.count(2), 2);
-        DUE.is("record(0, 1) behind a drop", desk.record(0, 1), 0);
-        desk.drop(0);
-        DUE.is("kept from the record on", desk.count(2), 2);
-        desk.drop(1);
-        DUE.is("kept from the drop on", desk.count(2), 1);
-    }
-
-    private static void room() {
-        JournalDesk desk = new JournalDesk();
-        Due.writeEmpty(desk, 39);
-        DUE.is("drop in the last sector", desk.drop(1), 38);
-        DUE.is("sectors", desk.count(2), 39);
-
-        JournalDesk full = new JournalDesk();
-        Due.writeEmpty(full, 40);
-        DUE.is("drop without room", full.drop(40), -1);
-        DUE.is("drop(0) without room", full.drop(0), -1);
-        DUE.is("records", full.count(1), 40);
-        DUE.is("entries", full.count(3), 40);
-    }
-
-    private static void cutDrop() {
+    private static void cut() {
         for (int behind = 0; behind <= 8; behind++) {
-            JournalDesk desk = new JournalDesk();
-            Due.writeEmpty(desk, 3);
-            desk.put(1L, 5);
-            desk.cut(behind);
-            DUE.is("drop(2) cut behind " + behind, desk.drop(2), -2);
-            DUE.is("the power is gone", desk.count(4), 0);
-            DUE.is("drop(0) without power", desk.drop(0), -1);
-            DUE.is("drop(1) without power", desk.drop(1), -1);
-            DUE.is("start()", desk.start(), 3);
-            DUE.is("none went", desk.record(0, 1), 0);
-            DUE.is("sectors", desk.count(2), 3);
-            DUE.is("entries", desk.count(3), 3);
-            DUE.is("a cut drop leaves the tape", desk.count(0), 5);
-            DUE.is("drop(2)", desk.drop(2), 1);
-        }
-    }
-
-    private static void roundTheRing() {
-        JournalDesk desk = new JournalDesk();
-        writeByEights(desk, 0);
-        for (int round = 1; round < 18; round++) {
-            DUE.is("write() of round " + round, writeByEights(desk, round), round);
-            DUE.is("drop(1) of round " + round, desk.drop(1), 1);
-            DUE.is("sectors of round " + round, desk.count(2), 9);
-            for (int k = 0; k < 96; k += 8) {
-                DUE.is("bytes(0, " + k + ") of round " + round, desk.bytes(0, k), round * 1000L + k);
+            for (int many = 0; many <= 5; many++) {
+                JournalDesk desk = fiveRecords();
+                desk.cut(behind);
+                DUE.is("drop(" + many + ") cut behind " + behind, desk.drop(many), -2);
+                DUE.is("count(3)", desk.count(3), 5);
             }
         }
     }
 
-    private static int writeByEights(JournalDesk desk, int round) {
-        for (int k = 0; k < 96; k += 8) {
-            desk.put(round * 1000L + k, 8);
+    private static void noneGoesIfCut() {
+        for (int many = 0; many <= 5; many++) {
+            JournalDesk desk = fiveRecords();
+            desk.cut(0);
+            desk.drop(many);
+            DUE.is("start()", desk.start(), 5);
+            DUE.same("behind a drop(" + many + ") that was cut", desk, fiveRecords());
+            DUE.is("drop(5)", desk.drop(5), 0);
         }
-        return desk.write();
+    }
+
+    private static void leavesTheTape() {
+        JournalDesk desk = fiveRecords();
+        Due.fill(desk, 30, 9);
+        desk.drop(1);
+        DUE.is("count(0) behind a drop", desk.count(0), 30);
+        desk.cut(0);
+        desk.drop(1);
+        DUE.is("count(0) behind a cut drop", desk.count(0), 30);
+        desk.start();
+        desk.write();
+        DUE.holds("behind both", desk, 4, 30, 9);
+    }
+
+    private static void withoutPower() {
+        JournalDesk desk = fiveRecords();
+        Due.powerOff(desk);
+        for (int many = -1; many <= 6; many++) {
+            DUE.is("drop(" + many + ") without power", desk.drop(many), -1);
+        }
+        DUE.is("count(3)", desk.count(3), 5);
+        desk.start();
+        DUE.same("behind drops without power", desk, fiveRecords());
+    }
+
+    private static void withoutRoom() {
+        JournalDesk desk = new JournalDesk();
+        Due.writeEmpty(desk, 40);
+        for (int many : new int[] {0, 1, 39, 40}) {
+            DUE.is("drop(" + many + ") without room", desk.drop(many), -1);
+        }
+        DUE.is("count(1)", desk.count(1), 40);
+        DUE.is("count(2)", desk.count(2), 40);
+        DUE.is("count(3)", desk.count(3), 40);
+    }
+
+    private static void lastSector() {
+        for (int many = 0; many <= 39; many++) {
+            JournalDesk desk = new JournalDesk();
+            Due.writeEmpty(desk, 39);
+            DUE.is("drop(" + many + ") in the last sector", desk.drop(many), 39 - many);
+            DUE.is("count(2)", desk.count(2), 40 - many);
+        }
+    }
+
+    private static void notAsMany() {
+        JournalDesk none = new JournalDesk();
+        DUE.is("drop(1) of none", none.drop(1), -1);
+        JournalDesk desk = fiveRecords();
+        for (int many : new int[] {6, 7, 40, 261, Integer.MAX_VALUE}) {
+            DUE.is("drop(" + many + ") of 5", desk.drop(many), -1);
+        }
+        DUE.same("behind drops of too many", desk, fiveRecords());
+        desk.drop(2);
+        DUE.is("those that went are not there: drop(4) of 3", desk.drop(4), -1);
+        desk.drop(0);
+        DUE.is("drops are no records: drop(4) of 3", desk.drop(4), -1);
+        DUE.is("drop(3) of 3", desk.drop(3), 0);
+    }
+
+    private static void belowZero() {
+        JournalDesk desk = fiveRecords();
+        for (int many : new int[] {-1, -5, Integer.MIN_VALUE}) {
+            DUE.is("drop(" + many + ")", desk.drop(many), -1);
+        }
+        DUE.same("behind drops below 0", desk, fiveRecords());
+    }
+
+    private static void zero() {
+        JournalDesk desk = fiveRecords();
+        DUE.is("drop(0)", desk.drop(0), 5);
+        DUE.is("record(0, 1)", desk.record(0, 1), 0);
+        DUE.is("count(2)", desk.count(2), 6);
+        DUE.is("count(3)", desk.count(3), 6);
+    }
+
+    private static void zeroOfNone() {
+        JournalDesk desk = new JournalDesk();
+        DUE.is("a first drop(0)", desk.drop(0), 0);
+        DUE.is("count(2)", desk.count(2), 1);
+        DUE.is("count(3)", desk.count(3), 1);
+        JournalDesk gone = fiveRecords();
+        gone.drop(5);
+        DUE.is("drop(0) when all went", gone.drop(0), 0);
+        DUE.is("count(2)", gone.count(2), 1);
     }
 }
